@@ -1,5 +1,6 @@
 /** Counts and prints the calls whose answer is not the one that is due. */
 final class Check {
+    private static final int PRINTED = 20;
     private static int wrong = 0;
 
     private Check() { }
@@ -7,7 +8,7 @@ final class Check {
     static void due(String call, long got, long want) {
         if (got != want) {
             wrong++;
-            if (wrong <= 50) {
+            if (wrong <= PRINTED) {
                 System.out.println(call + " answered " + got + ", due is " + want);
             }
         }
