@@ -7,6 +7,7 @@ public final class QuestionTest {
         behindsThatCircle();
         finds();
         looksAreCounted();
+        looksMindTheEndsOfDays();
         looksStopAtOne();
         wrongCallsAskNothing();
         exactlyTwentyThousand();
@@ -140,6 +141,26 @@ public final class QuestionTest {
         x.say(0, 0, 5, 5, 0, 1);
         Check.due("agrees", x.agrees(), 0);
         Check.due("no LOOKS", x.count(3), 0);
+    }
+
+    /** A SPAN that leaves another EVENT no place in DAYS is left at its own LOOK. */
+    private static void looksMindTheEndsOfDays() {
+        DayBench x = withEvents(2);
+        x.say(0, 6, 10, 20, 1, 1);
+        x.say(0, 0, 0, 9, 0, 1);
+        Check.due("agrees at the first DAYS", x.agrees(), 0);
+        Check.due("count(3)", x.count(3), 1);
+        x.take(1, false);
+        Check.due("first(0)", x.first(0), 10);
+        Check.due("last(1)", x.last(1), 985989);
+        x = withEvents(2);
+        x.say(0, 6, -20, -10, 1, 1);
+        x.say(0, 0, 985990, 985999, 0, 1);
+        Check.due("agrees at the last DAYS", x.agrees(), 0);
+        Check.due("count(3)", x.count(3), 1);
+        x.take(1, false);
+        Check.due("last(0)", x.last(0), 985989);
+        Check.due("first(1)", x.first(1), 10);
     }
 
     private static void looksStopAtOne() {

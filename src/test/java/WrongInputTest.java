@@ -8,7 +8,7 @@ public final class WrongInputTest {
 
     public static void main(String[] args) {
         for (int seed = 0; seed < 400; seed++) {
-            anyCalls(new Random(seed));
+            anyCalls(new Random(seed * 0x9E3779B97F4A7C15L));
         }
         refusedCallsChangeNothing();
         Check.end();
