@@ -22,19 +22,6 @@ public final class QuestionTest {
         Check.end();
     }
 
-    private static DayBench withEvents(int n) {
-        DayBench x = new DayBench();
-        for (int k = 0; k < n; k++) {
-            x.event();
-        }
-        return x;
-    }
-
-    /** A FEAST in the last n years of the EVEN calendar has n SPANS. */
-    private static void feast(DayBench x, int event, int n) {
-        x.say(event, 5, 2, 2700 - n, 101, 1);
-    }
-
     private static void withoutEvents() {
         DayBench x = new DayBench();
         Check.due("agrees", x.agrees(), 1);
@@ -51,7 +38,7 @@ public final class QuestionTest {
     }
 
     private static void withoutSayings() {
-        DayBench x = withEvents(6);
+        DayBench x = Setup.withEvents(6);
         Check.due("first", x.first(5), 0);
         Check.due("last", x.last(5), 985999);
         Check.due("first(6)", x.first(6), -1);
@@ -68,7 +55,7 @@ public final class QuestionTest {
     }
 
     private static void chainOfBehinds() {
-        DayBench x = withEvents(6);
+        DayBench x = Setup.withEvents(6);
         for (int e = 1; e < 6; e++) {
             x.say(e, 6, 40000, 40000, e - 1, 1);
         }
@@ -85,7 +72,7 @@ public final class QuestionTest {
     }
 
     private static void behindsThatCircle() {
-        DayBench x = withEvents(3);
+        DayBench x = Setup.withEvents(3);
         x.say(1, 6, 1, 5, 0, 1);
         x.say(2, 6, 1, 5, 1, 1);
         x.say(0, 6, -1, 5, 2, 1);
@@ -107,7 +94,7 @@ public final class QuestionTest {
     }
 
     private static void finds() {
-        DayBench x = withEvents(2);
+        DayBench x = Setup.withEvents(2);
         x.say(0, 0, 100, 200, 0, 5);
         x.say(1, 0, 150, 160, 0, 3);
         x.say(1, 6, 10, 20, 0, 2);
@@ -127,9 +114,9 @@ public final class QuestionTest {
     }
 
     private static void looksAreCounted() {
-        DayBench x = withEvents(3);
-        feast(x, 0, 10);
-        feast(x, 1, 10);
+        DayBench x = Setup.withEvents(3);
+        Setup.feast(x, 0, 10);
+        Setup.feast(x, 1, 10);
         x.say(1, 6, 0, 0, 0, 1);
         Check.due("first(2)", x.first(2), 0);
         Check.due("10 + 10 * 10 + 10 * 1 LOOKS", x.count(3), 120);
@@ -145,7 +132,7 @@ public final class QuestionTest {
 
     /** A SPAN that leaves another EVENT no place in DAYS is left at its own LOOK. */
     private static void looksMindTheEndsOfDays() {
-        DayBench x = withEvents(2);
+        DayBench x = Setup.withEvents(2);
         x.say(0, 6, 10, 20, 1, 1);
         x.say(0, 0, 0, 9, 0, 1);
         Check.due("agrees at the first DAYS", x.agrees(), 0);
@@ -153,7 +140,7 @@ public final class QuestionTest {
         x.take(1, false);
         Check.due("first(0)", x.first(0), 10);
         Check.due("last(1)", x.last(1), 985989);
-        x = withEvents(2);
+        x = Setup.withEvents(2);
         x.say(0, 6, -20, -10, 1, 1);
         x.say(0, 0, 985990, 985999, 0, 1);
         Check.due("agrees at the last DAYS", x.agrees(), 0);
@@ -164,9 +151,9 @@ public final class QuestionTest {
     }
 
     private static void looksStopAtOne() {
-        DayBench x = withEvents(2);
-        feast(x, 0, 10);
-        feast(x, 1, 10);
+        DayBench x = Setup.withEvents(2);
+        Setup.feast(x, 0, 10);
+        Setup.feast(x, 1, 10);
         x.say(0, 6, 365 * 7, 365 * 7, 1, 1);
         Check.due("agrees", x.agrees(), 1);
         Check.due("seven in vain of ten each, one, one", x.count(3), 7 * 11 + 2);
@@ -185,7 +172,7 @@ public final class QuestionTest {
     }
 
     private static void wrongCallsAskNothing() {
-        DayBench x = withEvents(2);
+        DayBench x = Setup.withEvents(2);
         Check.due("agrees", x.agrees(), 1);
         x.first(2);
         x.last(-1);
@@ -197,26 +184,18 @@ public final class QuestionTest {
         Check.due("count(3) is that of the latest question", x.count(3), 2);
     }
 
-    private static DayBench feasts(int... spans) {
-        DayBench x = withEvents(spans.length);
-        for (int e = 0; e < spans.length; e++) {
-            feast(x, e, spans[e]);
-        }
-        return x;
-    }
-
     private static void exactlyTwentyThousand() {
-        DayBench x = feasts(2, 9, 10, 10, 10);
+        DayBench x = Setup.feasts(2, 9, 10, 10, 10);
         Check.due("first", x.first(0), 2697 * 365);
         Check.due("count(3)", x.count(3), 20000);
         Check.due("width", x.width(-1, -1), (1 + 8 + 9 + 9 + 9) * 365);
-        x = feasts(3, 6, 10, 10, 10);
+        x = Setup.feasts(3, 6, 10, 10, 10);
         Check.due("first", x.first(0), -2);
         Check.due("the LOOKS made", x.count(3), 20000);
     }
 
     private static void spentEverywhere() {
-        DayBench x = feasts(10, 10, 10, 10, 10, 1);
+        DayBench x = Setup.feasts(10, 10, 10, 10, 10, 1);
         Check.due("agrees", x.agrees(), 1);
         Check.due("count(3)", x.count(3), 6);
         Check.due("first", x.first(5), -2);
@@ -224,11 +203,11 @@ public final class QuestionTest {
         Check.due("width", x.width(-1, -1), -2);
         Check.due("settles", x.settles(), -2);
         Check.due("width with a FIND", x.width(0, 2690 * 365), -2);
-        x = feasts(10, 10, 10, 10, 10);
+        x = Setup.feasts(10, 10, 10, 10, 10);
         Check.due("width", x.width(-1, -1), -2);
         Check.due("width with a FIND", x.width(0, 2690 * 365), 9 * 365 * 4);
         Check.due("width's LOOKS", x.count(3), 1 + 10 + 100 + 1000 + 10000);
-        x = feasts(10, 10, 10, 10, 10, 1);
+        x = Setup.feasts(10, 10, 10, 10, 10, 1);
         x.say(5, 6, 0, 0, 0, 9);
         x.say(5, 6, 365, 365, 0, 8);
         Check.due("BEHINDs that quarrel are seen at once", x.agrees(), 0);
@@ -244,7 +223,7 @@ public final class QuestionTest {
     }
 
     private static void quarrelOrder() {
-        DayBench x = withEvents(2);
+        DayBench x = Setup.withEvents(2);
         x.say(0, 0, 0, 10, 0, 1);
         x.say(1, 0, 0, 10, 0, 1);
         x.say(1, 0, 20, 30, 0, 1);
@@ -260,7 +239,7 @@ public final class QuestionTest {
     }
 
     private static void quarrelOfBehinds() {
-        DayBench x = withEvents(2);
+        DayBench x = Setup.withEvents(2);
         x.say(1, 6, 10, 20, 0, 1);
         x.say(0, 0, 100, 100, 0, 1);
         x.say(1, 0, 121, 130, 0, 1);
@@ -270,7 +249,7 @@ public final class QuestionTest {
     }
 
     private static void slipsAndCopies() {
-        DayBench x = withEvents(1);
+        DayBench x = Setup.withEvents(1);
         x.say(0, 0, 0, 10, 0, 5);
         x.say(0, 0, 20, 30, 0, 3);
         x.say(0, 0, 40, 50, 0, 2);
@@ -298,7 +277,7 @@ public final class QuestionTest {
     }
 
     private static void slipsOfRootNotTaken() {
-        DayBench x = withEvents(1);
+        DayBench x = Setup.withEvents(1);
         x.say(0, 0, 0, 10, 0, 50);
         x.say(0, 0, 20, 30, 0, 7);
         x.say(0, 0, 40, 50, 0, 1);
@@ -315,12 +294,12 @@ public final class QuestionTest {
     }
 
     private static void slippedStaysWhenSpent() {
-        DayBench x = withEvents(6);
+        DayBench x = Setup.withEvents(6);
         x.say(5, 0, 5, 5, 0, 3);
         x.say(5, 0, 6, 6, 0, 3);
         Check.due("slips", x.slips(), 3);
         for (int e = 0; e < 5; e++) {
-            feast(x, e, 10);
+            Setup.feast(x, e, 10);
         }
         Check.due("slips, spent", x.slips(), -2);
         Check.due("slipped(-1)", x.slipped(-1), 2);
@@ -329,7 +308,7 @@ public final class QuestionTest {
     }
 
     private static void settlesPicksLeast() {
-        DayBench x = withEvents(3);
+        DayBench x = Setup.withEvents(3);
         x.say(0, 0, 100, 120, 0, 1);
         x.say(1, 0, 100, 150, 0, 1);
         x.say(2, 0, 100, 100, 0, 1);
@@ -343,7 +322,7 @@ public final class QuestionTest {
         x.say(1, 0, 111, 111, 0, 1);
         Check.due("none is open", x.settles(), -1);
         // The greater WIDTH of the two counts: EVENT 0 on its FIRST leaves EVENT 1 wide.
-        x = withEvents(2);
+        x = Setup.withEvents(2);
         x.say(0, 5, 2, 1, 101, 1);
         x.say(0, 0, 0, 365, 0, 1);
         x.say(1, 0, 0, 1000, 0, 1);
@@ -357,7 +336,7 @@ public final class QuestionTest {
     }
 
     private static void counts() {
-        DayBench x = withEvents(2);
+        DayBench x = Setup.withEvents(2);
         x.king(0, 0, 0);
         x.say(0, 0, 0, 0, 0, 1);
         x.say(0, 0, 0, 0, 0, 1);

@@ -19,40 +19,6 @@ public final class SayingTest {
         Check.end();
     }
 
-    private static DayBench withEvents(int n) {
-        DayBench x = new DayBench();
-        for (int k = 0; k < n; k++) {
-            x.event();
-        }
-        return x;
-    }
-
-    /** What say answers, and the SPANS that the saying then has, as from, to, from, to .. */
-    private static void says(DayBench x, int what, int a, int b, int c, int... spans) {
-        String call = "say(0, " + what + ", " + a + ", " + b + ", " + c + ", 7)";
-        int made = x.count(2);
-        int got = x.say(0, what, a, b, c, 7);
-        Check.due(call, got, made);
-        Check.due(call + ": count(2)", x.count(2), made + 1);
-        Check.due(call + ": look 1", x.look(got, 1), what);
-        Check.due(call + ": look 6", x.look(got, 6), spans.length / 2);
-        for (int k = 0; k < spans.length / 2; k++) {
-            Check.due(call + ": span " + k + " first", x.span(got, k, false), spans[2 * k]);
-            Check.due(call + ": span " + k + " last", x.span(got, k, true), spans[2 * k + 1]);
-        }
-        Check.due(call + ": span beyond", x.span(got, spans.length / 2, false), -1);
-        Check.due(call + ": span beyond, last", x.span(got, spans.length / 2, true), -1);
-        Check.due(call + ": span -1", x.span(got, -1, false), -1);
-        Check.due(call + ": span far", x.span(got, Integer.MAX_VALUE, true), -1);
-    }
-
-    private static void refuses(DayBench x, int event, int what, int a, int b, int c, int weight) {
-        String call = "say(" + event + ", " + what + ", " + a + ", " + b + ", " + c + ", " + weight + ")";
-        int made = x.count(2);
-        Check.due(call, x.say(event, what, a, b, c, weight), -1);
-        Check.due(call + ": count(2)", x.count(2), made);
-    }
-
     private static void newObject() {
         DayBench x = new DayBench();
         for (int what = 0; what < 4; what++) {
@@ -65,7 +31,7 @@ public final class SayingTest {
         Check.due("new: slipped(0)", x.slipped(0), -1);
         Check.due("new: take", x.take(0, false), false);
         Check.due("new: copy", x.copy(1, 0), false);
-        refuses(x, 0, 0, 0, 0, 0, 1);
+        SayCheck.refuses(x, 0, 0, 0, 0, 0, 1);
         DayBench other = new DayBench();
         other.event();
         other.king(0, 1, 1);
@@ -102,156 +68,156 @@ public final class SayingTest {
     }
 
     private static void spanSayings() {
-        DayBench x = withEvents(1);
-        says(x, 0, 0, 985999, 77, 0, 985999);
-        says(x, 0, 5, 5, Integer.MIN_VALUE, 5, 5);
-        refuses(x, 0, 0, 5, 4, 0, 1);
-        refuses(x, 0, 0, -1, 4, 0, 1);
-        refuses(x, 0, 0, 4, 986000, 0, 1);
-        refuses(x, 0, 0, Integer.MIN_VALUE, Integer.MAX_VALUE, 0, 1);
+        DayBench x = Setup.withEvents(1);
+        SayCheck.says(x, 0, 0, 985999, 77, 0, 985999);
+        SayCheck.says(x, 0, 5, 5, Integer.MIN_VALUE, 5, 5);
+        SayCheck.refuses(x, 0, 0, 5, 4, 0, 1);
+        SayCheck.refuses(x, 0, 0, -1, 4, 0, 1);
+        SayCheck.refuses(x, 0, 0, 4, 986000, 0, 1);
+        SayCheck.refuses(x, 0, 0, Integer.MIN_VALUE, Integer.MAX_VALUE, 0, 1);
     }
 
     private static void dateSayings() {
-        DayBench x = withEvents(1);
-        says(x, 1, 0, 2000, 229, 730178, 730178);
-        says(x, 1, 2, 2, 1305, 729, 729);
-        says(x, 1, 1, 1, 103, 0, 0);
-        refuses(x, 0, 1, 1, 1, 102, 1);
-        refuses(x, 0, 1, 0, 1900, 229, 1);
-        refuses(x, 0, 1, 0, 1900, 200, 1);
-        refuses(x, 0, 1, 0, 1900, 29, 1);
-        refuses(x, 0, 1, 0, 1900, 1301, 1);
-        refuses(x, 0, 1, 3, 1900, 101, 1);
-        refuses(x, 0, 1, -1, 1900, 101, 1);
-        refuses(x, 0, 1, 0, 0, 101, 1);
-        refuses(x, 0, 1, 0, 2700, 101, 1);
-        refuses(x, 0, 1, 0, 1900, -101, 1);
-        refuses(x, 0, 1, 0, 1900, 99, 1);
-        refuses(x, 0, 1, 0, 1900, 199, 1);
-        refuses(x, 0, 1, 0, 1900, Integer.MIN_VALUE, 1);
-        refuses(x, 0, 1, 0, 1900, Integer.MAX_VALUE, 1);
+        DayBench x = Setup.withEvents(1);
+        SayCheck.says(x, 1, 0, 2000, 229, 730178, 730178);
+        SayCheck.says(x, 1, 2, 2, 1305, 729, 729);
+        SayCheck.says(x, 1, 1, 1, 103, 0, 0);
+        SayCheck.refuses(x, 0, 1, 1, 1, 102, 1);
+        SayCheck.refuses(x, 0, 1, 0, 1900, 229, 1);
+        SayCheck.refuses(x, 0, 1, 0, 1900, 200, 1);
+        SayCheck.refuses(x, 0, 1, 0, 1900, 29, 1);
+        SayCheck.refuses(x, 0, 1, 0, 1900, 1301, 1);
+        SayCheck.refuses(x, 0, 1, 3, 1900, 101, 1);
+        SayCheck.refuses(x, 0, 1, -1, 1900, 101, 1);
+        SayCheck.refuses(x, 0, 1, 0, 0, 101, 1);
+        SayCheck.refuses(x, 0, 1, 0, 2700, 101, 1);
+        SayCheck.refuses(x, 0, 1, 0, 1900, -101, 1);
+        SayCheck.refuses(x, 0, 1, 0, 1900, 99, 1);
+        SayCheck.refuses(x, 0, 1, 0, 1900, 199, 1);
+        SayCheck.refuses(x, 0, 1, 0, 1900, Integer.MIN_VALUE, 1);
+        SayCheck.refuses(x, 0, 1, 0, 1900, Integer.MAX_VALUE, 1);
     }
 
     private static void monthSayings() {
-        DayBench x = withEvents(1);
-        says(x, 2, 1, 1, 1, 0, 28);
-        says(x, 2, 0, 4, 2, 1126, 1154);
-        says(x, 2, 2, 2699, 13, 985130, 985134);
-        says(x, 2, 0, 2699, 12, 985758, 985788);
-        refuses(x, 0, 2, 0, 5, 13, 1);
-        refuses(x, 0, 2, 1, 5, 0, 1);
-        refuses(x, 0, 2, 2, 5, 14, 1);
-        refuses(x, 0, 2, 3, 5, 1, 1);
-        refuses(x, 0, 2, 0, 0, 12, 1);
-        refuses(x, 0, 2, 0, 2700, 1, 1);
-        refuses(x, 0, 2, 0, 5, Integer.MAX_VALUE, 1);
+        DayBench x = Setup.withEvents(1);
+        SayCheck.says(x, 2, 1, 1, 1, 0, 28);
+        SayCheck.says(x, 2, 0, 4, 2, 1126, 1154);
+        SayCheck.says(x, 2, 2, 2699, 13, 985130, 985134);
+        SayCheck.says(x, 2, 0, 2699, 12, 985758, 985788);
+        SayCheck.refuses(x, 0, 2, 0, 5, 13, 1);
+        SayCheck.refuses(x, 0, 2, 1, 5, 0, 1);
+        SayCheck.refuses(x, 0, 2, 2, 5, 14, 1);
+        SayCheck.refuses(x, 0, 2, 3, 5, 1, 1);
+        SayCheck.refuses(x, 0, 2, 0, 0, 12, 1);
+        SayCheck.refuses(x, 0, 2, 0, 2700, 1, 1);
+        SayCheck.refuses(x, 0, 2, 0, 5, Integer.MAX_VALUE, 1);
     }
 
     private static void yearSayings() {
-        DayBench x = withEvents(1);
-        says(x, 3, 1, 1, 99, 0, 362);
-        says(x, 3, 0, 1, 0, 0, 364);
-        says(x, 3, 0, 4, 0, 1095, 1460);
-        says(x, 3, 1, 2699, 0, 985442, 985806);
-        says(x, 3, 2, 2699, 0, 984770, 985134);
-        refuses(x, 0, 3, 0, 0, 0, 1);
-        refuses(x, 0, 3, 0, 2700, 0, 1);
-        refuses(x, 0, 3, 0, Integer.MAX_VALUE, 0, 1);
-        refuses(x, 0, 3, -1, 5, 0, 1);
-        refuses(x, 0, 3, 3, 5, 0, 1);
+        DayBench x = Setup.withEvents(1);
+        SayCheck.says(x, 3, 1, 1, 99, 0, 362);
+        SayCheck.says(x, 3, 0, 1, 0, 0, 364);
+        SayCheck.says(x, 3, 0, 4, 0, 1095, 1460);
+        SayCheck.says(x, 3, 1, 2699, 0, 985442, 985806);
+        SayCheck.says(x, 3, 2, 2699, 0, 984770, 985134);
+        SayCheck.refuses(x, 0, 3, 0, 0, 0, 1);
+        SayCheck.refuses(x, 0, 3, 0, 2700, 0, 1);
+        SayCheck.refuses(x, 0, 3, 0, Integer.MAX_VALUE, 0, 1);
+        SayCheck.refuses(x, 0, 3, -1, 5, 0, 1);
+        SayCheck.refuses(x, 0, 3, 3, 5, 0, 1);
     }
 
     private static void reignSayings() {
-        DayBench x = withEvents(1);
-        refuses(x, 0, 4, 0, 1, 0, 1);
+        DayBench x = Setup.withEvents(1);
+        SayCheck.refuses(x, 0, 4, 0, 1, 0, 1);
         x.king(0, Walk.day(0, 2000, 2, 29), Walk.day(0, 2000, 3, 1));
-        says(x, 4, 0, 1, 0, 730178, Walk.day(0, 2001, 3, 1) - 1);
-        says(x, 4, 0, 2, 0, Walk.day(0, 2001, 3, 1), Walk.day(0, 2002, 3, 1) - 1);
-        says(x, 4, 0, 60, 0, Walk.day(0, 2059, 3, 1), Walk.day(0, 2060, 3, 1) - 1);
-        refuses(x, 0, 4, 0, 0, 0, 1);
-        refuses(x, 0, 4, 0, 61, 0, 1);
-        refuses(x, 0, 4, 1, 1, 0, 1);
-        refuses(x, 0, 4, -1, 1, 0, 1);
-        refuses(x, 0, 4, Integer.MAX_VALUE, 1, 0, 1);
+        SayCheck.says(x, 4, 0, 1, 0, 730178, Walk.day(0, 2001, 3, 1) - 1);
+        SayCheck.says(x, 4, 0, 2, 0, Walk.day(0, 2001, 3, 1), Walk.day(0, 2002, 3, 1) - 1);
+        SayCheck.says(x, 4, 0, 60, 0, Walk.day(0, 2059, 3, 1), Walk.day(0, 2060, 3, 1) - 1);
+        SayCheck.refuses(x, 0, 4, 0, 0, 0, 1);
+        SayCheck.refuses(x, 0, 4, 0, 61, 0, 1);
+        SayCheck.refuses(x, 0, 4, 1, 1, 0, 1);
+        SayCheck.refuses(x, 0, 4, -1, 1, 0, 1);
+        SayCheck.refuses(x, 0, 4, Integer.MAX_VALUE, 1, 0, 1);
         x.king(2, 0, Walk.day(2, 2690, 1, 1));
-        says(x, 4, 1, 9, 0, 8 * 365, Walk.day(2, 2699, 1, 1) - 1);
-        refuses(x, 0, 4, 1, 10, 0, 1);
+        SayCheck.says(x, 4, 1, 9, 0, 8 * 365, Walk.day(2, 2699, 1, 1) - 1);
+        SayCheck.refuses(x, 0, 4, 1, 10, 0, 1);
         x.king(0, 985789, 985999);
-        refuses(x, 0, 4, 2, 1, 0, 1);
+        SayCheck.refuses(x, 0, 4, 2, 1, 0, 1);
         x.king(1, 0, 0);
-        says(x, 4, 3, 1, 0, 0, Walk.day(1, 2, 1, 3) - 1);
+        SayCheck.says(x, 4, 3, 1, 0, 0, Walk.day(1, 2, 1, 3) - 1);
     }
 
     private static void feastSayings() {
-        DayBench x = withEvents(1);
-        says(x, 5, 2, 1, 101, 0, 0, 365, 365, 730, 730, 1095, 1095, 1460, 1460,
+        DayBench x = Setup.withEvents(1);
+        SayCheck.says(x, 5, 2, 1, 101, 0, 0, 365, 365, 730, 730, 1095, 1095, 1460, 1460,
             1825, 1825, 2190, 2190, 2555, 2555, 2920, 2920, 3285, 3285);
         int leap1896 = Walk.day(0, 1896, 2, 29);
         int leap1904 = Walk.day(0, 1904, 2, 29);
-        says(x, 5, 0, 1896, 229, leap1896, leap1896, leap1904, leap1904);
-        says(x, 5, 0, 1895, 229, leap1896, leap1896, leap1904, leap1904);
-        says(x, 5, 0, 1894, 229, leap1896, leap1896);
-        says(x, 5, 0, 2699, 1231, 985788, 985788);
+        SayCheck.says(x, 5, 0, 1896, 229, leap1896, leap1896, leap1904, leap1904);
+        SayCheck.says(x, 5, 0, 1895, 229, leap1896, leap1896, leap1904, leap1904);
+        SayCheck.says(x, 5, 0, 1894, 229, leap1896, leap1896);
+        SayCheck.says(x, 5, 0, 2699, 1231, 985788, 985788);
         // Only the years in which there is such a date count; the first of the ten may be none.
-        says(x, 5, 2, -8, 101, 0, 0);
-        says(x, 5, 1, 0, 101, 364 - 1, 364 - 1, 728, 728, 1093, 1093, 1459, 1459, 1824, 1824,
+        SayCheck.says(x, 5, 2, -8, 101, 0, 0);
+        SayCheck.says(x, 5, 1, 0, 101, 364 - 1, 364 - 1, 728, 728, 1093, 1093, 1459, 1459, 1824, 1824,
             2189, 2189, 2554, 2554, 2920, 2920);
-        refuses(x, 0, 5, 2, -9, 101, 1);
-        refuses(x, 0, 5, 1, -8, 101, 1);
-        refuses(x, 0, 5, 0, 2700, 101, 1);
-        refuses(x, 0, 5, 0, 5, 230, 1);
-        refuses(x, 0, 5, 0, 5, 1301, 1);
-        refuses(x, 0, 5, 3, 5, 101, 1);
-        refuses(x, 0, 5, 0, 2697, 229, 1);
-        refuses(x, 0, 5, 0, Integer.MAX_VALUE, 101, 1);
-        refuses(x, 0, 5, 0, Integer.MIN_VALUE, 101, 1);
+        SayCheck.refuses(x, 0, 5, 2, -9, 101, 1);
+        SayCheck.refuses(x, 0, 5, 1, -8, 101, 1);
+        SayCheck.refuses(x, 0, 5, 0, 2700, 101, 1);
+        SayCheck.refuses(x, 0, 5, 0, 5, 230, 1);
+        SayCheck.refuses(x, 0, 5, 0, 5, 1301, 1);
+        SayCheck.refuses(x, 0, 5, 3, 5, 101, 1);
+        SayCheck.refuses(x, 0, 5, 0, 2697, 229, 1);
+        SayCheck.refuses(x, 0, 5, 0, Integer.MAX_VALUE, 101, 1);
+        SayCheck.refuses(x, 0, 5, 0, Integer.MIN_VALUE, 101, 1);
     }
 
     private static void behindSayings() {
-        DayBench x = withEvents(2);
-        says(x, 6, -40000, 40000, 1);
-        says(x, 6, 5, 5, 1);
-        refuses(x, 0, 6, 6, 5, 1, 1);
-        refuses(x, 0, 6, -40001, 0, 1, 1);
-        refuses(x, 0, 6, 0, 40001, 1, 1);
-        refuses(x, 0, 6, Integer.MIN_VALUE, Integer.MAX_VALUE, 1, 1);
-        refuses(x, 0, 6, 0, 1, 0, 1);
-        refuses(x, 0, 6, 0, 1, 2, 1);
-        refuses(x, 0, 6, 0, 1, -1, 1);
+        DayBench x = Setup.withEvents(2);
+        SayCheck.says(x, 6, -40000, 40000, 1);
+        SayCheck.says(x, 6, 5, 5, 1);
+        SayCheck.refuses(x, 0, 6, 6, 5, 1, 1);
+        SayCheck.refuses(x, 0, 6, -40001, 0, 1, 1);
+        SayCheck.refuses(x, 0, 6, 0, 40001, 1, 1);
+        SayCheck.refuses(x, 0, 6, Integer.MIN_VALUE, Integer.MAX_VALUE, 1, 1);
+        SayCheck.refuses(x, 0, 6, 0, 1, 0, 1);
+        SayCheck.refuses(x, 0, 6, 0, 1, 2, 1);
+        SayCheck.refuses(x, 0, 6, 0, 1, -1, 1);
         Check.due("span of a BEHIND", x.span(0, 0, false), -1);
     }
 
     private static void wrongSayings() {
-        DayBench x = withEvents(1);
-        refuses(x, -1, 0, 0, 1, 0, 1);
-        refuses(x, 1, 0, 0, 1, 0, 1);
-        refuses(x, 0, -1, 0, 1, 0, 1);
-        refuses(x, 0, 7, 0, 1, 0, 1);
-        refuses(x, 0, 0, 0, 1, 0, 0);
-        refuses(x, 0, 0, 0, 1, 0, 101);
-        refuses(x, 0, 0, 0, 1, 0, Integer.MIN_VALUE);
+        DayBench x = Setup.withEvents(1);
+        SayCheck.refuses(x, -1, 0, 0, 1, 0, 1);
+        SayCheck.refuses(x, 1, 0, 0, 1, 0, 1);
+        SayCheck.refuses(x, 0, -1, 0, 1, 0, 1);
+        SayCheck.refuses(x, 0, 7, 0, 1, 0, 1);
+        SayCheck.refuses(x, 0, 0, 0, 1, 0, 0);
+        SayCheck.refuses(x, 0, 0, 0, 1, 0, 101);
+        SayCheck.refuses(x, 0, 0, 0, 1, 0, Integer.MIN_VALUE);
         Check.due("weight 100", x.say(0, 0, 0, 1, 0, 100), 0);
         Check.due("weight 1", x.say(0, 0, 0, 1, 0, 1), 1);
     }
 
     private static void twelveSayings() {
-        DayBench x = withEvents(2);
+        DayBench x = Setup.withEvents(2);
         for (int k = 0; k < 12; k++) {
             Check.due("saying " + k, x.say(k % 2, 0, k, k + 9, 0, k + 1), k);
         }
-        refuses(x, 0, 0, 0, 1, 0, 1);
-        refuses(x, 0, 6, 0, 1, 1, 1);
+        SayCheck.refuses(x, 0, 0, 0, 1, 0, 1);
+        SayCheck.refuses(x, 0, 6, 0, 1, 1, 1);
         for (int k = 0; k < 12; k++) {
             Check.due("event of " + k, x.look(k, 0), k % 2);
             Check.due("weight of " + k, x.look(k, 2), k + 1);
             Check.due("from of " + k, x.span(k, 0, false), k);
         }
         x.take(3, false);
-        refuses(x, 0, 0, 0, 1, 0, 1);
+        SayCheck.refuses(x, 0, 0, 0, 1, 0, 1);
     }
 
     private static void copies() {
-        DayBench x = withEvents(2);
+        DayBench x = Setup.withEvents(2);
         for (int k = 0; k < 5; k++) {
             x.say(k % 2, 0, 0, 9, 0, 5);
         }
@@ -276,7 +242,7 @@ public final class SayingTest {
     }
 
     private static void taking() {
-        DayBench x = withEvents(1);
+        DayBench x = Setup.withEvents(1);
         x.say(0, 0, 0, 9, 0, 5);
         Check.due("TAKEN at first", x.look(0, 3), 1);
         Check.due("take true at first", x.take(0, true), false);
@@ -293,7 +259,7 @@ public final class SayingTest {
     }
 
     private static void looks() {
-        DayBench x = withEvents(3);
+        DayBench x = Setup.withEvents(3);
         x.say(2, 0, 3, 9, 0, 42);
         int[] want = {2, 0, 42, 1, -1, 0, 1};
         for (int what = 0; what < want.length; what++) {
