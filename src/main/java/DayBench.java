@@ -659,8 +659,13 @@ public final class DayBench {
         void lay(Saying[] sayings, int set) {
             clearTable();
             for (int k = 0; k < sayings.length; k++) {
-                if ((set >> k & 1) != 0) {
-                    layOne(sayings[k]);
+                if ((set >> k & 1) == 0) {
+                    continue;
+                }
+                if (sayings[k].what == BEHIND) {
+                    layBehind(sayings[k]);
+                } else {
+                    keepCommon(sayings[k].event, sayings[k].spans);
                 }
             }
             together = closeApart();
@@ -677,11 +682,7 @@ public final class DayBench {
             }
         }
 
-        private void layOne(Saying s) {
-            if (s.what != BEHIND) {
-                keepCommon(s.event, s.spans);
-                return;
-            }
+        private void layBehind(Saying s) {
             int e = s.event;
             int c = s.behindEvent;
             apart[c][e] = Math.min(apart[c][e], s.mostBehind);
