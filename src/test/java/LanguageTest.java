@@ -40,6 +40,7 @@ public final class LanguageTest {
                 found.add(whole);
             } else {
                 Check.due(method + " is private", Modifier.isPrivate(method.getModifiers()) || method.isSynthetic(), true);
+                Check.due(method + " bears a public name", names().contains(method.getName()), false);
             }
         }
         Check.due("face: " + found, found.equals(FACE), true);
@@ -51,22 +52,36 @@ public final class LanguageTest {
         }
     }
 
-    private static void nested() {
+    private static Set<String> names() {
         Set<String> names = new TreeSet<>();
         for (String method : FACE) {
             names.add(method.replaceAll(".* (\\w+)\\(.*", "$1"));
         }
+        return names;
+    }
+
+    private static int fieldsOf(Class<?> owner) {
+        int fields = 0;
+        for (Field field : owner.getDeclaredFields()) {
+            if (Modifier.isStatic(field.getModifiers())) {
+                Check.due(field + " is final", Modifier.isFinal(field.getModifiers()), true);
+            } else {
+                fields++;
+            }
+        }
+        return fields;
+    }
+
+    private static void nested() {
+        Set<String> names = names();
+        Check.due("the bench has at most twenty fields", fieldsOf(DayBench.class) <= 20, true);
         Check.due("at most twelve classes", DayBench.class.getDeclaredClasses().length < 12, true);
         for (Class<?> inside : DayBench.class.getDeclaredClasses()) {
             Check.due(inside + " is static", Modifier.isStatic(inside.getModifiers()), true);
             for (Method method : inside.getDeclaredMethods()) {
                 Check.due(method + " bears a public name", names.contains(method.getName()), false);
             }
-            int fields = 0;
-            for (Field field : inside.getDeclaredFields()) {
-                fields += Modifier.isStatic(field.getModifiers()) ? 0 : 1;
-            }
-            Check.due(inside + " has at most twenty fields", fields <= 20, true);
+            Check.due(inside + " has at most twenty fields", fieldsOf(inside) <= 20, true);
         }
     }
 }
